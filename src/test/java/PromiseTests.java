@@ -259,8 +259,11 @@ public final class PromiseTests {
         due(11, "nothing changed", press.cost(), 8500);
         press.exchange(0, 2);
         due(11, "back again", worth(press, 0, 2), -500);
-        press.table(8);
         for (int one = 0; one < 64; one += 7) {
+            // An object is good for 512 calls alone.
+            press = new DotPress();
+            press.table(8);
+            press.exchange(one, 63 - one);
             for (int other = 1; other < 64; other += 5) {
                 if (one != other) {
                     long before = press.cost();

@@ -185,39 +185,50 @@ public final class ReferenceTests {
     }
 
     private static void everyNet() {
-        DotPress press = new DotPress();
-        Plain plain = new Plain();
         for (int a = -8; a <= 8; a++) {
             for (int b = -8; b <= 8; b++) {
-                due("net " + a + ", " + b, bit(press.net(a, b)), bit(plain.net(a, b)));
-                due("m of " + a + ", " + b, press.count(5), plain.count(5));
-                due("c of " + a + ", " + b, press.count(6), plain.count(6));
+                Plain plain = new Plain();
+                plain.net(a, b);
                 int m = plain.count(5);
                 for (int x = 0; x <= m; x += 3) {
-                    for (int y = 0; y <= m; y += 2) {
-                        due("rank of " + a + ", " + b + " at " + x + ", " + y, press.rank(x, y), plain.rank(x, y));
-                    }
+                    // An object is good for 512 calls alone.
+                    ranksOfColumn(pressBy(a, b, plain), plain, x, a + ", " + b);
                 }
             }
         }
     }
 
-    private static void everyBeat() {
+    private static DotPress pressBy(int a, int b, Plain plain) {
         DotPress press = new DotPress();
-        Plain plain = new Plain();
+        due("net " + a + ", " + b, bit(press.net(a, b)), bit(plain.isNet(a, b)));
+        due("m of " + a + ", " + b, press.count(5), plain.count(5));
+        due("c of " + a + ", " + b, press.count(6), plain.count(6));
+        return press;
+    }
+
+    private static void ranksOfColumn(DotPress press, Plain plain, int x, String net) {
+        for (int y = 0; y <= plain.count(5); y += 2) {
+            due("rank of " + net + " at " + x + ", " + y, press.rank(x, y), plain.rank(x, y));
+        }
+    }
+
+    private static void everyBeat() {
         for (int a = -8; a <= 8; a++) {
             for (int b = -8; b <= 8; b++) {
-                press.net(a, b);
+                Plain plain = new Plain();
                 plain.net(a, b);
-                due("best of " + a + ", " + b, press.best(), plain.best());
+                due("best of " + a + ", " + b, pressBy(a, b, plain).best(), plain.best());
                 for (int c = -8; c <= 8; c++) {
-                    for (int d = -8; d <= 8; d++) {
-                        String nets = "beat of " + a + ", " + b + " with " + c + ", " + d;
-                        due(nets, press.beat(c, d, 0), plain.beat(c, d, 0));
-                        due(nets, press.beat(c, d, 1), plain.beat(c, d, 1));
-                    }
+                    beatsOfColumn(pressBy(a, b, plain), plain, c, "beat of " + a + ", " + b + " with " + c + ", ");
                 }
             }
+        }
+    }
+
+    private static void beatsOfColumn(DotPress press, Plain plain, int c, String nets) {
+        for (int d = -8; d <= 8; d++) {
+            due(nets + d, press.beat(c, d, 0), plain.beat(c, d, 0));
+            due(nets + d, press.beat(c, d, 1), plain.beat(c, d, 1));
         }
     }
 
