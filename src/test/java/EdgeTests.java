@@ -409,6 +409,9 @@ public final class EdgeTests {
     private static void sharesThatAreCarried() {
         leastInked("a DOT is made if that is 128 or more", 1, 0, 0, 128, "picture(1, 1) = 1");
         leastInked("a DOT is made if that is 128 or more", 1, 0, 0, 128, NOTHING);
+        leastInked("row by row from above", 1, 0, 0, 128, "picture(1, 2) = 1", "shade(0, 1, 127) = 1");
+        leastInked("row by row from above", 1, 0, 0, 128, "picture(2, 2) = 1", "ramp(0, 1, 2, 1, 100, 0) = 1",
+            "back(true) = 1");
         // GREY, then the least GREY with a DOT at the PLACE that gets seven, three, five sixteenths and the rest.
         int[][] shares = {
             {0, 128, 128, 128, 128}, {1, 128, 128, 128, 127}, {2, 128, 128, 128, 126}, {3, 127, 128, 128, 126},
@@ -554,6 +557,8 @@ public final class EdgeTests {
         holds("alike far: then u", "net(1, 1) = 1", "rank(0, 0) = 0", "rank(1, 0) = 1", "rank(0, 1) = 1",
             "rank(1, 1) = 0", "net(2, 0) = 1", "rank(1, 1) = 0", "rank(0, 1) = 1", "rank(1, 0) = 2", "rank(0, 0) = 3",
             "net(0, 2) = 1", "rank(1, 1) = 0", "rank(1, 0) = 1", "rank(0, 1) = 2", "rank(0, 0) = 3");
+        // (8, 2) is 0 and 144 off the middle, (2, 9) is 144 and 4.
+        holds("how far first, whatever u is", "net(1, 4) = 1", "rank(0, 2) = 5", "rank(0, 9) = 6");
         holds("m is 1", "net(0, -1) = 1", "rank(0, 0) = 0", "rank(1, 0) = 0", "rank(0, 1000) = 0",
             "rank(1000, 999) = 0", "rank(1001, 0) ! -1");
         holds("m is 128", "net(8, 8) = 1", "rank(0, 0) = 127", "rank(1000, 1000) = 127", "rank(8, 8) = 127",
